@@ -22,6 +22,8 @@ public final class PowerTest {
         new Run("19 set anew").calls("power(1)", "power(9)", "begin() = 0", "make(0, 1, true)", "commit(0) = 1", "power(NONE)",
             "begin() = 0", "make(0, 2, true)", "commit(0) = 2", "power(5)", "power(1001) throws IllegalArgumentException",
             "begin() = 0", "make(0, 3, true)", "commit(0) = 3", "begin() = 0", "make(0, 4, true)", "commit(0) = LOST", "recover() = 0", "kind(NONE, 4) = 0");
+        new Run("19 all transactions are gone").calls("begin() = 0", "begin() = 1", "begin() = 2", "make(1, 1, true)", "power(4)", "commit(1) = LOST", "count(3) = 0",
+            "recover() = 3", "count(3) = 0", "check(0) throws IllegalStateException", "check(2) throws IllegalStateException", "begin() = 0");
         new Run("19 it goes once").calls("power(0)", "begin() = 0", "make(0, 1, true)", "commit(0) = LOST", "recover() = 0",
             "begin() = 0", "make(0, 1, true)", "commit(0) = 1");
     }

@@ -117,9 +117,11 @@ public final class TransactionsTest {
             "remove(1, 4) = false", "make(1, 4, false)", "commit(1) = 4", "commit(0) = REFUSED", "commit(2) = 5");
         new Run("4 refused by HAS").calls(
             "begin() = 0", "make(0, 1, true)", "commit(0) = 1",
-            "begin() = 0", "begin() = 1", "list(0, 1) = 0", "make(1, 0x15, false)", "commit(1) = 2", "commit(0) = REFUSED",
+            "begin() = 0", "begin() = 1", "begin() = 2", "list(0, 1) = 0", "list(2, 0) = 2",
+            "make(1, 0x15, false)", "commit(1) = 2", "commit(0) = REFUSED", "check(2) = 0",
+            "begin() = 0", "make(0, 15, true)", "commit(0) = 3", "check(2) = REFUSED", "drop(2) = 15",
             "begin() = 0", "begin() = 1", "remove(0, 0x15) = false", "remove(0, 1) = true",
-            "make(1, 0x16, false)", "commit(1) = 3", "check(0) = REFUSED", "commit(0) = REFUSED", "list(NONE, 1) = 96");
+            "make(1, 0x16, false)", "commit(1) = 4", "check(0) = REFUSED", "commit(0) = REFUSED", "list(NONE, 1) = 96");
         new Run("4 refused by a length, or a node that went").calls(
             "begin() = 0", "make(0, 1, false)", "commit(0) = 1",
             "begin() = 0", "begin() = 1", "begin() = 2", "length(0, 1) = 0", "append(2, 1, 4) = 1",
@@ -139,6 +141,12 @@ public final class TransactionsTest {
             "begin() = 0", "make(0, 1, true)", "make(0, 2, false)", "append(0, 2, 1) = 1", "commit(0) = 1",
             "begin() = 0", "begin() = 1", "make(0, 0x11, true)", "append(1, 2, 2) = 2",
             "commit(1) = 2", "commit(0) = 3", "length(NONE, 2) = 2", "kind(NONE, 0x11) = 1", "count(1) = 4", "count(2) = 5");
+        new Run("4 what others put in stays").calls(
+            "begin() = 0", "make(0, 1, true)", "commit(0) = 1", "begin() = 0", "begin() = 1",
+            "make(0, 2, true)", "make(0, 0x11, false)", "append(0, 0x11, 3) = 1", "make(1, 3, false)", "append(1, 3, 4) = 1", "make(1, 0x12, true)",
+            "commit(0) = 2", "count(5) = 14", "commit(1) = 3", "count(5) = 23",
+            "list(NONE, 0) = 14", "list(NONE, 1) = 6", "read(NONE, 0x11, 0) = 3", "read(NONE, 3, 0) = 4", "count(1) = 6", "count(2) = 8",
+            "begin() = 0", "list(0, 1) = 6", "about(0, 2) = 6", "drop(0) = 16");
         new Run("4 words behind the length are 0").calls(
             "begin() = 0", "make(0, 1, false)", "append(0, 1, 1) = 1", "append(0, 1, 0) = 2", "commit(0) = 1",
             "begin() = 0", "begin() = 1", "write(0, 1, 1, 6) = 2", "cut(1, 1, 1) = 1", "commit(0) = 2", "commit(1) = 3",
@@ -156,6 +164,15 @@ public final class TransactionsTest {
         run.calls("about(0, 2) = 40", "check(0) = 0", "make(0, 10, true)", "check(0) = FULL", "commit(0) = FULL",
             "about(0, 2) = 41", "count(0) = 0", "count(5) = 0", "remove(0, 10) = true", "commit(0) = 1", "count(1) = 40",
             "begin() = 0", "begin() = 1", "make(0, 11, true)", "commit(0) = FULL", "remove(1, 9) = true", "commit(1) = 2", "commit(0) = 3", "count(1) = 40");
+        Run others = new Run("4 full by nodes of others").calls("begin() = 0", "begin() = 1", "make(0, 1, true)", "make(1, 2, true)");
+        for (int name = 1; name <= 15; name++) {
+            others.calls("make(0, " + (16 + name) + ", true)", "make(1, " + (32 + name) + ", true)");
+        }
+        others.calls("commit(0) = 1", "check(1) = 0", "begin() = 0", "make(0, 3, true)");
+        for (int name = 1; name <= 7; name++) {
+            others.call("make(0, " + (48 + name) + ", true)");
+        }
+        others.calls("commit(0) = 2", "count(1) = 25", "about(1, 2) = 17", "check(1) = FULL", "remove(1, 0x2F) = true", "commit(1) = 3", "count(1) = 40");
     }
 
     private static void fullByBlocks() {

@@ -65,7 +65,7 @@ public final class TreeTest {
     private static void move() {
         started("8 move").calls(
             "move(0, 0, 4) throws IllegalArgumentException", "move(0, 1, 0) throws IllegalArgumentException",
-            "move(0, 1, 1) throws IllegalArgumentException", "move(0, 1, 0x13) throws IllegalArgumentException", "move(0, 1, 0x1234) throws IllegalArgumentException",
+            "move(0, 1, 1) throws IllegalArgumentException", "move(0, 1, 0x13) throws IllegalArgumentException", "move(0, 1, 0x1234) throws IllegalArgumentException", "move(0, 1, 0x1234567) throws IllegalArgumentException",
             "move(0, 4, 0x45) throws IllegalArgumentException", "move(0, 0x10, 4) throws IllegalArgumentException", "move(0, 1, 0x40) throws IllegalArgumentException",
             "move(0, 4, 5) throws NoSuchElementException", "move(0, 1, 0x45) throws NoSuchElementException", "move(0, 1, 0x211) throws NoSuchElementException",
             "move(0, 1, 0x21) throws UnsupportedOperationException", "move(0, 1, 3) throws UnsupportedOperationException", "move(0, 0x12, 1) throws UnsupportedOperationException",
